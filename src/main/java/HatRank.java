@@ -68,13 +68,8 @@ public final class HatRank {
         if (!shelves.holdsBytes(shelf)) {
             return OTHER_KIND;
         }
-        int last = shelves.lengthOf(shelf) - 3;
         int came = 0;
-        // i is looked at first: 3 * came would wrap for an i near the greatest int
-        while (came < n && within(i, 0, last) && i + 3 * came <= last) {
-            if (newPersonFrom(shelf, i + 3 * came) < 0) {
-                break;
-            }
+        while (came < n && shelves.hasSpan(shelf, i, 3 * came + 3) && newPersonFrom(shelf, i + 3 * came) >= 0) {
             came++;
         }
         return came;
@@ -173,25 +168,13 @@ public final class HatRank {
     }
 
     public long chance(int person, int y, int part) {
-        if (!mayThink(person, y) || !within(part, 0, 1)) {
-            return NO_VALUE;
-        }
-        if (y > hoursLeft()) {
-            return STATE;
-        }
-        odds.spread(day, person, day.at[person], y);
-        return partOf(odds.commanding, odds.all, part);
+        long refusal = spreadFor(person, y, part);
+        return refusal != 0 ? refusal : partOf(odds.commanding, odds.all, part);
     }
 
     public long mean(int person, int y, int part) {
-        if (!mayThink(person, y) || !within(part, 0, 1)) {
-            return NO_VALUE;
-        }
-        if (y > hoursLeft()) {
-            return STATE;
-        }
-        odds.spread(day, person, day.at[person], y);
-        return partOf(odds.hats, odds.all, part);
+        long refusal = spreadFor(person, y, part);
+        return refusal != 0 ? refusal : partOf(odds.hats, odds.all, part);
     }
 
     public int stand(int person, int y) {
@@ -201,10 +184,10 @@ public final class HatRank {
         if (y > hoursLeft()) {
             return STATE;
         }
-        int best = day.at[person];
-        odds.spread(day, person, best, y);
+        int own = day.at[person];
+        int best = own;
+        odds.spread(day, person, own, y);
         long most = odds.commanding;
-        int own = best;
         for (int place = 0; place < town.places; place++) {
             if (place != own) {
                 // parts of one and the same whole, so they can be compared as they are
@@ -417,6 +400,18 @@ public final class HatRank {
 
     private boolean mayThink(int person, int y) {
         return town.hasPerson(person) && within(y, 0, THOUGHT_HOURS);
+    }
+
+    /** Why there are no odds; 0 if they are spread. */
+    private long spreadFor(int person, int y, int part) {
+        if (!mayThink(person, y) || !within(part, 0, 1)) {
+            return NO_VALUE;
+        }
+        if (y > hoursLeft()) {
+            return STATE;
+        }
+        odds.spread(day, person, day.at[person], y);
+        return 0;
     }
 
     private boolean mayEnd(int pt) {

@@ -10,6 +10,7 @@ public final class KeepingTest {
         undoing();
         doingAgain();
         fortyChanges();
+        fortyOfEachKind();
         undoingEachKind();
         counts();
         due.end();
@@ -165,29 +166,60 @@ public final class KeepingTest {
 
     private static void fortyChanges() {
         HatRank x = new HatRank();
+        int[] was = new int[45];
         for (int i = 0; i < 45; i++) {
-            x.mend(i % 24, 3, (i + 4) % 10);
+            was[i] = i < 24 ? 3 : blow(i - 24);
+            due.is("mend", x.mend(i % 24, 3, blow(i)), was[i]);
             due.is("count(5)", x.count(5), Math.min(40, i + 1));
         }
-        for (int left = 39; left >= 0; left--) {
-            due.is("undo", x.undo(), left);
+        for (int i = 44; i >= 5; i--) {
+            due.is("undo", x.undo(), i - 5);
+            due.is("as it was", x.of(i % 24, 20), was[i]);
         }
         due.is("the 41st is not kept", x.undo(), STATE);
-        for (int hour = 0; hour < 5; hour++) {
-            due.is("what can't be undone", x.of(hour, 20), hour + 4);
+        for (int hour = 0; hour < 24; hour++) {
+            due.is("what can and can't be undone", x.of(hour, 20), hour < 5 ? blow(hour) : 3);
         }
-        due.is("what can be undone", x.of(5, 20), 3);
-        for (int left = 39; left >= 0; left--) {
-            due.is("redo", x.redo(), left);
+        for (int i = 5; i < 45; i++) {
+            due.is("redo", x.redo(), 44 - i);
+            due.is("as it became", x.of(i % 24, 20), blow(i));
         }
         due.is("redo", x.redo(), STATE);
-        for (int i = 21; i < 45; i++) {
-            due.is("all again", x.of(i % 24, 20), (i + 4) % 10);
-        }
         x.undo();
         x.undo();
         x.mend(0, 3, 0);
         due.is("38 and one", x.count(5), 39);
+    }
+
+    /** Of 45 changes each becomes something else than what it was. */
+    private static int blow(int change) {
+        return (change * 7 + 4) % 10;
+    }
+
+    private static void fortyOfEachKind() {
+        HatRank x = new HatRank();
+        for (int place = 0; place < 5; place++) {
+            x.place(9);
+            x.person(19, place);
+        }
+        int[] ofWhat = {1, 10, 11, 20};
+        int[][] changes = new int[53][];
+        for (int i = 0; i < changes.length; i++) {
+            int what = i % 4;
+            int number = i / 4 % 5;
+            int v = i * 3 % 7;
+            changes[i] = new int[] {number, ofWhat[what], x.of(number, ofWhat[what]), v};
+            due.is("mend", x.mend(number, what, v), changes[i][2]);
+        }
+        for (int i = 52; i >= 13; i--) {
+            due.is("undo", x.undo(), i - 13);
+            due.is("as it was", x.of(changes[i][0], changes[i][1]), changes[i][2]);
+        }
+        due.is("undo", x.undo(), STATE);
+        for (int i = 13; i < 53; i++) {
+            due.is("redo", x.redo(), 52 - i);
+            due.is("as it became", x.of(changes[i][0], changes[i][1]), changes[i][3]);
+        }
     }
 
     private static void undoingEachKind() {

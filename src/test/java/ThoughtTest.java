@@ -20,6 +20,7 @@ public final class ThoughtTest {
         aheads();
         storms();
         seededRows();
+        seedsTo99();
         seededRefusals();
         thoughtsChangeNothing();
         due.end();
@@ -248,6 +249,8 @@ public final class ThoughtTest {
         }
         x.go(0, 23);
         due.is("one hour is left", x.chance(0, 1, 1), 1);
+        due.holds("one hour is left, mean", x.mean(0, 1, 1) > 0);
+        due.is("one hour is left, stand", x.stand(0, 1), 0);
         due.is("two are not", x.chance(0, 2, 0), STATE);
         due.is("mean of two", x.mean(0, 2, 0), STATE);
         due.is("BAD ahead of STATE", x.chance(0, 2, 2), NO_VALUE);
@@ -447,6 +450,21 @@ public final class ThoughtTest {
         Due.row(x, 2, 0, 0);
         due.is("surely in two hours", x.seeded(2, 2), 0);
         due.is("surely not in one", x.seeded(2, 1), NOT);
+    }
+
+    /** With many hats in the wind each seed tells other hats: 99 is still looked at, 100 is not. */
+    private static void seedsTo99() {
+        HatRank x = town("6", 0, 0);
+        for (int p = 0; p < 6; p++) {
+            x.person(50, p % 2);
+        }
+        for (int seed = 98; seed <= 101; seed++) {
+            x.row(0, 0, 6);
+            for (int p = 0; p < 6; p++) {
+                x.put(0, p, x.ahead(seed, 10, p, 0));
+            }
+            due.is("hats by seed " + seed, x.seeded(0, 10), seed <= 99 ? seed : NOT);
+        }
     }
 
     private static int leastSeed(HatRank x, int hats, int k) {
