@@ -5,7 +5,8 @@ public final class HatRank {
     public static final int BAD = -1, NOT = -2, FULL = -3, STATE = -5, VOID = -2000000000;
 
     private static final int NOTHING_THERE = -11, OTHER_KIND = -12, NO_SUCH_PLACE = -13, SIZE_BELOW_0 = -14;
-    private static final long NO_VALUE = Long.MIN_VALUE;
+    /** The least long, written out: of Long the language's list has the functions alone. */
+    private static final long NO_VALUE = -9223372036854775808L;
     private static final int PEOPLE = 6, PLACES = 7, WAYS = 12, HOURS = 24, HATS = 9, LYING = 99, TWELVE = 12;
     private static final int FIRST_BLOW = 3, BRIM = 0, LEE = 1, DOWN = 2, BLOW = 3;
     private static final int TAPE = 120, FAULT_BASE = -100, MOST_MORE = 20, SEEDS = 100, THOUGHT_HOURS = 2;
