@@ -82,7 +82,10 @@ public final class HatRank {
             return BAD;
         }
         int before = town.exchange(what, number, v);
-        changes.note(what, number, before, v);
+        // what stays as it was is no change: it can't be undone, and cuts off nothing that can be done again
+        if (before != v) {
+            changes.note(what, number, before, v);
+        }
         return before;
     }
 

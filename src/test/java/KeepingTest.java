@@ -8,6 +8,8 @@ public final class KeepingTest {
         whatCameSince();
         whatAnImageLeaves();
         undoing();
+        mendingToTheSame();
+        mendingToTheSameBehindForty();
         doingAgain();
         fortyChanges();
         fortyOfEachKind();
@@ -111,23 +113,71 @@ public final class KeepingTest {
         due.is("redo nothing", x.redo(), STATE);
         x.mend(5, 3, 7);
         x.mend(5, 3, 8);
-        x.mend(5, 3, 8);
         x.mend(6, 3, 1);
         x.mend(24, 3, 1);
-        due.is("count(5)", x.count(5), 4);
-        due.is("undo", x.undo(), 3);
+        due.is("count(5)", x.count(5), 3);
+        due.is("undo", x.undo(), 2);
         due.is("the latest first", x.of(6, 20), 3);
         due.is("the others stay", x.of(5, 20), 8);
-        due.is("undo a change to the same", x.undo(), 2);
-        due.is("it was 8", x.of(5, 20), 8);
         due.is("undo", x.undo(), 1);
         due.is("it was 7", x.of(5, 20), 7);
         due.is("undo", x.undo(), 0);
         due.is("it was 3", x.of(5, 20), 3);
         due.is("no more", x.undo(), STATE);
         due.is("count(5)", x.count(5), 0);
-        due.is("redo", x.redo(), 3);
+        due.is("redo", x.redo(), 2);
         due.is("7 again", x.of(5, 20), 7);
+    }
+
+    private static void mendingToTheSame() {
+        HatRank x = new HatRank();
+        x.place(5);
+        x.person(16, 0);
+        int[] stands = {6, 5, 0, 3};
+        for (int what = 0; what < 4; what++) {
+            due.is("what it was", x.mend(0, what, stands[what]), stands[what]);
+            due.is("nothing changed", x.count(5), 0);
+            due.is("nothing may be undone", x.undo(), STATE);
+        }
+        for (int what = 0; what < 4; what++) {
+            x.mend(0, what, 1);
+            due.is("what it was", x.mend(0, what, 1), 1);
+            due.is("one change of each kind", x.count(5), what + 1);
+        }
+        x.undo();
+        x.undo();
+        for (int what = 0; what < 4; what++) {
+            int v = what < 2 ? 1 : stands[what];
+            due.is("what it was", x.mend(0, what, v), v);
+        }
+        due.is("count(5)", x.count(5), 2);
+        due.is("none came behind", x.redo(), 1);
+        due.is("DOWN again", x.of(0, 11), 1);
+        due.is("redo", x.redo(), 0);
+        due.is("BLOW again", x.of(0, 20), 1);
+        due.is("redo", x.redo(), STATE);
+        due.is("undo", x.undo(), 3);
+        due.is("another value than it was changes", x.mend(0, 3, 2), 3);
+        due.is("came behind", x.redo(), STATE);
+        due.is("count(5)", x.count(5), 4);
+    }
+
+    private static void mendingToTheSameBehindForty() {
+        HatRank x = new HatRank();
+        for (int i = 0; i < 40; i++) {
+            x.mend(i % 24, 3, blow(i));
+        }
+        for (int hour = 0; hour < 24; hour++) {
+            int stands = x.of(hour, 20);
+            due.is("what it was", x.mend(hour, 3, stands), stands);
+        }
+        for (int i = 39; i >= 0; i--) {
+            due.is("none of the forty was lost", x.undo(), i);
+        }
+        due.is("no more", x.undo(), STATE);
+        for (int hour = 0; hour < 24; hour++) {
+            due.is("3 at first", x.of(hour, 20), 3);
+        }
     }
 
     private static void doingAgain() {
@@ -187,13 +237,13 @@ public final class KeepingTest {
         due.is("redo", x.redo(), STATE);
         x.undo();
         x.undo();
-        x.mend(0, 3, 0);
+        x.mend(0, 3, 9);
         due.is("38 and one", x.count(5), 39);
     }
 
-    /** Of 45 changes each becomes something else than what it was. */
+    /** Of 45 changes, round the hours, each becomes something else than what it was. */
     private static int blow(int change) {
-        return (change * 7 + 4) % 10;
+        return change < 24 ? 4 + change % 6 : change % 3;
     }
 
     private static void fortyOfEachKind() {
@@ -207,7 +257,8 @@ public final class KeepingTest {
         for (int i = 0; i < changes.length; i++) {
             int what = i % 4;
             int number = i / 4 % 5;
-            int v = i * 3 % 7;
+            // never what stands there: that would be no change
+            int v = i * 5 % 7;
             changes[i] = new int[] {number, ofWhat[what], x.of(number, ofWhat[what]), v};
             due.is("mend", x.mend(number, what, v), changes[i][2]);
         }

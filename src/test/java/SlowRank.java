@@ -124,6 +124,7 @@ final class SlowRank {
         List<Integer> row = settings(what);
         if (number < 0 || number >= row.size() || v < 0 || v > (what == 2 ? 6 : 9)) return BAD;
         int was = row.set(number, v);
+        if (was == v) return v;
         done.add(new int[] {what, number, was, v});
         undone.clear();
         if (done.size() > 40) done.remove(0);
