@@ -17,11 +17,15 @@ final class Due {
         is(what, so ? 1 : 0, 1);
     }
 
-    /** Feeds a text and makes it the law. */
-    static int law(HatRank x, String text) {
+    static void feed(HatRank x, String text) {
         for (int i = 0; i < text.length(); i++) {
             x.feed(text.charAt(i));
         }
+    }
+
+    /** Feeds a text and makes it the law. */
+    static int law(HatRank x, String text) {
+        feed(x, text);
         return x.law();
     }
 
