@@ -11,6 +11,7 @@ public final class DeedBoundsTest {
         anySeed();
         takingUpBelowNine();
         takingUpWhileOneLies();
+        gustsInAnHour();
         drawsBelowTheNumber();
         whoHasNoHatsDrawsNothing();
         seedsGoOnFromHourToHour();
@@ -48,25 +49,19 @@ public final class DeedBoundsTest {
         fresh.leaves(BAD, "go", 0, 25);
     }
 
-    private static HatRank houseAt(int now) {
-        HatRank x = House.mixed();
-        House.calmHours(x, now - 5);
-        return x;
-    }
-
     /** "STATE: there are not as many left"; BAD is named first. */
     private static void hoursThatAreLeft() {
         house.changes(2, "go", 0, 19);
         for (int n = 20; n <= 24; n++) {
             house.leaves(STATE, "go", 0, n);
         }
-        Twins last = new Twins(due, () -> houseAt(23));
+        Twins last = new Twins(due, () -> House.at(23));
         due.is("NOW", last.changes(0, "go", 0, 1).count(3), 24);
         last.leaves(STATE, "go", 0, 2);
         last.leaves(STATE, "go", 0, 24);
         last.leaves(BAD, "go", 0, 25);
         last.leaves(BAD, "go", 0, 0);
-        Twins over = new Twins(due, () -> houseAt(24));
+        Twins over = new Twins(due, () -> House.at(24));
         over.leaves(STATE, "go", 0, 1);
         over.leaves(STATE, "go", 0, 24);
         over.leaves(BAD, "go", 0, 25);
@@ -117,6 +112,29 @@ public final class DeedBoundsTest {
             x.go(0, 1);
             hats("lying " + lying, x, 9, lying > 0 ? 2 : 1, lying > 1 ? 9 : 8, lying > 2 ? 1 : 0, 1);
             due.is("LYING then", x.of(0, 12), Math.max(0, lying - 3));
+        }
+    }
+
+    /** "GUST at a PLACE in an HOUR: BLOW less LEE, 0 at least", in deed as in thought. */
+    private static void gustsInAnHour() {
+        for (int lee = 0; lee <= 9; lee++) {
+            for (int blow = 0; blow <= 9; blow++) {
+                int gust = Math.max(0, blow - lee);
+                for (int asked = Math.max(0, gust - 1); asked <= gust + 1; asked++) {
+                    HatRank x = House.town("g=" + asked + "?12", lee);
+                    x.mend(0, 3, blow);
+                    x.person(20, 0);
+                    int left = asked == gust ? 1 : 2;
+                    Due.row(x, 0, 0, left);
+                    due.is("GUST", x.of(0, 13), gust);
+                    due.is("ahead", x.ahead(0, 1, 0, 0), left);
+                    due.is("seeded", x.seeded(0, 1), 0);
+                    due.is("mean", x.mean(0, 1, 0), left);
+                    due.is("risk", x.risk(0, 0), asked == gust ? 12 : 0);
+                    due.is("heavy", x.heavy(0, 11), asked == gust ? NOT : 0);
+                    due.is("go", x.go(0, 1), 2 - left);
+                }
+            }
         }
     }
 
@@ -274,7 +292,7 @@ public final class DeedBoundsTest {
 
     /** "(NOW stays)": no HOUR is wanted for it. */
     private static void movingWhenTheDayIsOver() {
-        HatRank x = new Twins(due, () -> houseAt(24)).changes(1, "move", 0, 1);
+        HatRank x = new Twins(due, () -> House.at(24)).changes(1, "move", 0, 1);
         due.is("NOW", x.count(3), 24);
     }
 

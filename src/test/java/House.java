@@ -67,6 +67,13 @@ final class House {
         Due.feed(x, "p*3");
     }
 
+    /** The mixed town in a later HOUR: as many calm hours went by. */
+    static HatRank at(int now) {
+        HatRank x = mixed();
+        calmHours(x, now - x.count(3));
+        return x;
+    }
+
     /** Places by their lees, with a law; without one if it is empty. */
     static HatRank town(String law, int... lees) {
         HatRank x = new HatRank();

@@ -95,6 +95,7 @@ public final class KeepingBoundsTest {
             HatRank x = House.mixed();
             x.lay(5);
             x.lay(4);
+            x.lay(0);
             x.person(87, 5);
             x.move(4, 0);
             return x;
@@ -107,6 +108,7 @@ public final class KeepingBoundsTest {
         due.is("PLACE of 3, who was there", x.of(3, 2), 3);
         due.is("LYING at 5, which came since", x.of(5, 12), 2);
         due.is("LYING at 4, which was there", x.of(4, 12), 0);
+        due.is("LYING at 0, which was there", x.of(0, 12), 0);
     }
 
     private static void theLatestImage() {
@@ -121,11 +123,7 @@ public final class KeepingBoundsTest {
     }
 
     private static void imagesWhenTheDayEnds() {
-        Twins over = new Twins(due, () -> {
-            HatRank x = House.mixed();
-            House.calmHours(x, 19);
-            return x;
-        });
+        Twins over = new Twins(due, () -> House.at(24));
         HatRank x = over.changes(24, "image");
         x.move(0, 1);
         due.is("back to NOW 24", x.back(), 24);

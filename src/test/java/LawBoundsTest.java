@@ -27,6 +27,7 @@ public final class LawBoundsTest {
         towardZero();
         onesAndZeros();
         whichLineCounts();
+        linesByNames();
         heldWithin0To12();
         withoutAText();
         withoutHats();
@@ -173,6 +174,9 @@ public final class LawBoundsTest {
                 fault(signs + seventh + "g" + closing, 6);
                 fault("n+" + signs + seventh + "g" + closing, 8);
                 fault("n-" + signs + seventh + "g" + closing, 8);
+                fault("b?" + signs + seventh + "g" + closing, 8);
+                fault("b;" + signs + seventh + "g" + closing, 8);
+                fault("(b)=" + signs + seventh + "g" + closing, 10);
                 fault(signs + seventh, 6);
             }
         }
@@ -362,6 +366,27 @@ public final class LawBoundsTest {
         value("0?5;3;7?7", 3);
         value("0?1;".repeat(29) + "1?9", 9);
         value("0?1;".repeat(29) + "0?9", 0);
+    }
+
+    /** A NAME alone as the first E: 0 or not. Two people, in an hour's wind that one of them has none of. */
+    private static void linesByNames() {
+        HatRank x = House.town("0", 3, 2);
+        x.person(10, 0);
+        x.person(11, 1);
+        String[] names = {"g", "n", "b", "h", "p", "o"};
+        boolean[][] not0 = {{false, true, false, false, false, false}, {true, true, true, false, true, false}};
+        for (int i = 0; i < names.length; i++) {
+            Due.law(x, names[i] + "?5;7");
+            for (int p = 0; p < 2; p++) {
+                due.is("by '" + names[i] + "?5;7' of " + p, x.of(p, 4), not0[p][i] ? 5 : 7);
+            }
+        }
+        House.calmHours(x, 1);
+        x.person(10, 0);
+        for (String name : new String[] {"h", "o"}) {
+            Due.law(x, name + "?5;7");
+            due.is("by '" + name + "?5;7' of 0", x.of(0, 4), 5);
+        }
     }
 
     /** "held within 0 .. 12". */

@@ -39,9 +39,9 @@ public final class ManyTextsTest {
 
     private static void readable(Random random) {
         for (int n = 0; n < 20000; n++) {
-            StringBuilder text = new StringBuilder(RandomRunsTest.text(random, 0));
+            StringBuilder text = new StringBuilder(RandomCalls.text(random, 0));
             for (int line = random.nextInt(4); line > 0; line--) {
-                text.append(random.nextInt(2) == 0 ? "?" : ";").append(RandomRunsTest.text(random, 0));
+                text.append(random.nextInt(2) == 0 ? "?" : ";").append(RandomCalls.text(random, 0));
             }
             text.setLength(Math.min(120, text.length()));
             look(text.toString());

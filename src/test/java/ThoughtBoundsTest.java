@@ -9,9 +9,9 @@ public final class ThoughtBoundsTest {
     private static final Due due = new Due();
     private static final Twins house = new Twins(due, House::mixed);
     /** Nothing falls there any more. */
-    private static final Twins at22 = new Twins(due, () -> houseAt(22));
-    private static final Twins at23 = new Twins(due, () -> houseAt(23));
-    private static final Twins at24 = new Twins(due, () -> houseAt(24));
+    private static final Twins at22 = new Twins(due, () -> House.at(22));
+    private static final Twins at23 = new Twins(due, () -> House.at(23));
+    private static final Twins at24 = new Twins(due, () -> House.at(24));
 
     public static void main(String[] args) {
         riskFromNowTo23();
@@ -19,12 +19,16 @@ public final class ThoughtBoundsTest {
         riskOfWhatCantBe();
         walkFromNowToT();
         walkOfWhatCantBe();
+        risksWhenTheDayBegins();
         risksWhenTheDayEnds();
         chanceOfWhom();
         chanceInHours();
         chanceParts();
         chancesInLowestTerms();
         meansInLowestTerms();
+        severalWhoMayFall();
+        noneBehindNine();
+        thoughtsKnowWhatChanged();
         standOfWhom();
         standOfLikeOnes();
         thoughtsWhenTheDayEnds();
@@ -43,12 +47,6 @@ public final class ThoughtBoundsTest {
         seededRowsThatLackOrGoOn();
         seedsFrom0To99();
         due.end();
-    }
-
-    private static HatRank houseAt(int now) {
-        HatRank x = House.mixed();
-        House.calmHours(x, now - 5);
-        return x;
     }
 
     /** "t; NOW to 23". */
@@ -123,6 +121,29 @@ public final class ThoughtBoundsTest {
         house.leaves(BAD, "walk", 0, 206, 7);
         house.leaves(NOT, "walk", 0, 523, 23);
         house.leaves(BAD, "walk", 0, 523, 24);
+    }
+
+    /** pt is 0 for PLACE 0 in HOUR 0; each hundred is the next PLACE in HOUR 0. */
+    private static void risksWhenTheDayBegins() {
+        for (int at = 0; at < 7; at++) {
+            int own = at;
+            Twins seven = new Twins(due, () -> {
+                HatRank x = House.town("", 0, 0, 0, 0, 0, 0, 0);
+                x.person(10, own);
+                return x;
+            });
+            for (int place = 0; place < 7; place++) {
+                seven.leaves(place == at ? 4 : NOT, "risk", 0, 100 * place);
+                seven.leaves(place == at ? 4 * 24 : NOT, "risk", 0, 100 * place + 23);
+                seven.leaves(place == at ? at : NOT, "walk", 0, 100 * place, 0);
+                seven.leaves(place == at ? at : NOT, "walk", 0, 100 * place + 23, 23);
+            }
+            seven.leaves(BAD, "risk", 0, 700);
+            seven.leaves(BAD, "risk", 0, -1);
+            seven.leaves(BAD, "walk", 0, 700, 0);
+            seven.leaves(BAD, "walk", 0, 100 * at, 1);
+            seven.leaves(BAD, "walk", 0, 100 * at, -1);
+        }
     }
 
     private static void risksWhenTheDayEnds() {
@@ -227,6 +248,94 @@ public final class ThoughtBoundsTest {
         }
     }
 
+    /** Two of whom each loses a hat by 6 of 12, for good or to take it up again: by itself each is as if alone. */
+    private static void severalWhoMayFall() {
+        Twins forGood = new Twins(due, () -> falling(2, 2));
+        Twins again = new Twins(due, () -> falling(0, 1));
+        for (int p = 0; p < 2; p++) {
+            fraction("mean", forGood, p, 1, 5, 2);
+            fraction("mean", forGood, p, 2, 2, 1);
+            fraction("mean", again, p, 1, 5, 2);
+            fraction("mean", again, p, 2, 5, 2);
+        }
+        fraction("chance", forGood, 0, 1, 3, 4);
+        fraction("chance", forGood, 1, 1, 1, 4);
+        fraction("chance", forGood, 0, 2, 11, 16);
+        fraction("chance", forGood, 1, 2, 5, 16);
+        fraction("chance", again, 0, 2, 3, 4);
+        fraction("chance", again, 1, 2, 1, 4);
+    }
+
+    private static HatRank falling(int... downs) {
+        HatRank x = House.town("6", 0, 0, 0);
+        for (int p = 0; p < 2; p++) {
+            x.mend(p, 2, downs[p]);
+            x.person(30, p);
+        }
+        return x;
+    }
+
+    /** 9 HATS are the most, 0 and 1 the least: the one's number is not the other's, in whatever order they come. */
+    private static void noneBehindNine() {
+        for (int order = 0; order < 4; order++) {
+            int first = order % 2;
+            int few = order / 2;
+            Twins six = new Twins(due, () -> {
+                HatRank x = House.town("n=9?6", 0, 0, 0, 0, 0, 0, 0);
+                for (int p = 0; p < 6; p++) {
+                    x.mend(p, 2, 6);
+                    x.person(p % 2 == first ? 90 : 10 * few, p);
+                }
+                return x;
+            });
+            for (int p = 0; p < 6; p++) {
+                boolean nine = p % 2 == first;
+                fraction("mean", six, p, 1, nine ? 17 : few, nine ? 2 : 1);
+                fraction("mean", six, p, 2, nine ? 33 : few, nine ? 4 : 1);
+            }
+        }
+    }
+
+    /** Asked once: a thought could make another one right. */
+    private static void thoughts(String what, HatRank x, String want) {
+        String got = x.seeded(0, 1) + " " + x.ahead(0, 1, 0, 0) + " " + x.mean(0, 1, 0) + " " + x.risk(0, 0) + " "
+            + x.heavy(0, 11) + " " + x.storm(0) + " " + x.stand(1, 1);
+        due.holds(what + ": " + got + ", due is " + want, got.equals(want));
+    }
+
+    /** What is told of an hour holds of the town as it is, not as it was in a thought before. */
+    private static void thoughtsKnowWhatChanged() {
+        HatRank x = House.town("p=0&g&!b?12", 0, 9);
+        x.way(1);
+        x.person(10, 0);
+        x.person(10, 0);
+        x.mend(0, 3, 1);
+        for (int hour = 1; hour < 24; hour++) {
+            x.mend(hour, 3, 0);
+        }
+        Due.row(x, 0, 0, 0);
+        String falls = "0 0 0 12 1 0 0";
+        thoughts("it falls", x, falls);
+        x.mend(0, 0, 1);
+        thoughts("a BRIM", x, "-2 1 1 0 1 -2 0");
+        x.undo();
+        thoughts("undone", x, falls);
+        x.mend(0, 1, 1);
+        thoughts("a LEE", x, "-2 1 1 0 0 1 0");
+        x.undo();
+        x.mend(0, 3, 0);
+        thoughts("a BLOW", x, "-2 1 1 0 0 1 0");
+        x.undo();
+        x.move(0, 1);
+        // what falls there is LYING there, and taken up again unless it falls in the last hour
+        thoughts("a PLACE", x, "-2 1 1 -2 0 10 0");
+        x.move(0, 0);
+        Due.law(x, "0");
+        thoughts("a law", x, "-2 1 1 0 0 -2 0");
+        Due.law(x, "p=0&g&!b?12");
+        thoughts("all as it was", x, falls);
+    }
+
     private static void standOfWhom() {
         for (int y = 0; y <= 2; y++) {
             house.leaves(0, "stand", 0, y);
@@ -243,9 +352,13 @@ public final class ThoughtBoundsTest {
 
     /** Hats lie where they are to be taken up; who has most of them by then commands. */
     private static Twins standing(int at, int... lying) {
+        return standing(0, at, lying);
+    }
+
+    private static Twins standing(int other, int at, int[] lying) {
         return new Twins(due, () -> {
             HatRank x = House.town("0", new int[lying.length]);
-            x.person(10, 0);
+            x.person(10, other);
             x.person(10, at);
             for (int place = 0; place < lying.length; place++) {
                 for (int i = 0; i < lying[place]; i++) {
@@ -269,6 +382,12 @@ public final class ThoughtBoundsTest {
         // at PLACE 0 the other one takes up the first hat, and has a lesser number
         standing(2, 1, 0, 0).leaves(2, "stand", 1, 2);
         standing(2, 2, 0, 0).leaves(2, "stand", 1, 1);
+        // the least of all PLACES, and the greatest
+        standing(3, 2, new int[] {1, 0, 0, 0}).leaves(0, "stand", 1, 1);
+        standing(3, 2, new int[] {1, 1, 0, 0}).leaves(0, "stand", 1, 1);
+        standing(3, 0, new int[] {1, 1, 0, 0}).leaves(0, "stand", 1, 1);
+        standing(3, 1, new int[] {1, 1, 0, 0}).leaves(1, "stand", 1, 1);
+        standing(1, 2, new int[] {0, 0, 0, 1}).leaves(3, "stand", 1, 1);
     }
 
     /** "STATE: there are not as many left"; BAD is named first. */

@@ -464,8 +464,7 @@ public final class TownBoundsTest {
     }
 
     private static HatRank houseAt(int now) {
-        HatRank x = House.mixed();
-        House.calmHours(x, now - 5);
+        HatRank x = House.at(now);
         Due.law(x, "h-20");
         return x;
     }

@@ -7,7 +7,7 @@ import java.util.function.Supplier;
 
 /** Objects made alike: one gets a call, the other does not, and all that can be seen of the two is compared. */
 final class Twins {
-    private static final List<Function<HatRank, String>> LOOKS = List.of(Look::town, Look::ways, Look::tape,
+    static final List<Function<HatRank, String>> LOOKS = List.of(Look::town, Look::ways, Look::tape,
         Look::changesBack, Look::changesAgain, Look::image, Look::acts, Look::lowerShelves, Look::upperShelves);
 
     private final Due due;
