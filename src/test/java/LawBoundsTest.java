@@ -22,6 +22,7 @@ public final class LawBoundsTest {
         linesOneOrMore();
         textsThatEndTooEarly();
         faultsAtTheTapesEnds();
+        aPartForEachByte();
         intsThatWrap();
         byZero();
         towardZero();
@@ -265,6 +266,19 @@ public final class LawBoundsTest {
         fault("1+".repeat(59) + "1?", 120);
         fault("(" + "1+".repeat(58) + "12)", NO_FAULT);
         fault("(" + "1+".repeat(58) + "123", 120);
+    }
+
+    /** Texts of 120 bytes, each of which is a sign or a number of its own; one behind another, as each law is read anew. */
+    private static void aPartForEachByte() {
+        String[] texts = {"-1" + "+0".repeat(58) + "+9", "!0" + "*1".repeat(58) + "*5", "-4" + "-0".repeat(58) + "*9",
+            "!1" + "|0".repeat(58) + "|3"};
+        int[] numbers = {8, 5, 0, 1};
+        HatRank x = alone("7");
+        for (int i = 0; i < texts.length; i++) {
+            due.is("its length", texts[i].length(), 120);
+            due.is("law of '" + texts[i] + "'", Due.law(x, texts[i]), 1);
+            due.is("number by '" + texts[i] + "'", x.of(0, 4), numbers[i]);
+        }
     }
 
     private static HatRank alone(String text) {
