@@ -172,13 +172,21 @@ public final class HatRank {
     }
 
     public long chance(int person, int y, int part) {
-        long refusal = spreadFor(person, y, part);
-        return refusal != 0 ? refusal : partOf(odds.commanding, odds.all, part);
+        long refusal = fractionRefusal(person, y, part);
+        if (refusal != 0) {
+            return refusal;
+        }
+        odds.spread(day, person, day.at[person], y);
+        return partOf(odds.commanding, odds.all, part);
     }
 
     public long mean(int person, int y, int part) {
-        long refusal = spreadFor(person, y, part);
-        return refusal != 0 ? refusal : partOf(odds.hats, odds.all, part);
+        long refusal = fractionRefusal(person, y, part);
+        if (refusal != 0) {
+            return refusal;
+        }
+        odds.spread(day, person, day.at[person], y);
+        return partOf(odds.hats, odds.all, part);
     }
 
     public int stand(int person, int y) {
@@ -406,16 +414,12 @@ public final class HatRank {
         return town.hasPerson(person) && within(y, 0, THOUGHT_HOURS);
     }
 
-    /** Why there are no odds; 0 if they are spread. */
-    private long spreadFor(int person, int y, int part) {
+    /** Why there is no fraction; 0 if there is one. */
+    private long fractionRefusal(int person, int y, int part) {
         if (!mayThink(person, y) || !within(part, 0, 1)) {
             return NO_VALUE;
         }
-        if (y > hoursLeft()) {
-            return STATE;
-        }
-        odds.spread(day, person, day.at[person], y);
-        return 0;
+        return y > hoursLeft() ? STATE : 0;
     }
 
     private boolean mayEnd(int pt) {
@@ -623,9 +627,9 @@ public final class HatRank {
 
     /** A read law: each node works on earlier nodes alone, so one pass without a stack works all out. */
     static final class Formula {
-        static final int NEGATED = '_', NO_CONDITION = -1;
+        static final int LITERAL = '0', NEGATED = '_', NO_CONDITION = -1;
 
-        private static final int LITERAL = '0', NAMED = 6, NODES = NAMED + TAPE;
+        private static final int NAMED = 6, NODES = NAMED + TAPE;
 
         private final int[] sign = new int[NODES];
         private final int[] left = new int[NODES];
@@ -646,14 +650,7 @@ public final class HatRank {
             return lines == 0;
         }
 
-        int addNumber(int number) {
-            int node = add(LITERAL, 0, 0);
-            if (has(node)) {
-                value[node] = number;
-            }
-            return node;
-        }
-
+        /** Its number, or -1; of a literal the left one is no node, but what it stands for. */
         int add(int itsSign, int itsLeft, int itsRight) {
             if (nodes >= NODES) {
                 return -1;
@@ -681,7 +678,9 @@ public final class HatRank {
 
         int work() {
             for (int node = NAMED; node < nodes; node++) {
-                if (sign[node] != LITERAL && has(left[node]) && has(right[node])) {
+                if (sign[node] == LITERAL) {
+                    value[node] = left[node];
+                } else if (has(left[node]) && has(right[node])) {
                     value[node] = join(sign[node], value[left[node]], value[right[node]]);
                 }
             }
@@ -852,7 +851,7 @@ public final class HatRank {
                 number = number * 10 + here() - '0';
                 at++;
             }
-            return draft.addNumber(number);
+            return draft.add(Formula.LITERAL, number, 0);
         }
 
         private static boolean isDigit(int letter) {
