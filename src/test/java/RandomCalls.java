@@ -12,7 +12,7 @@ final class RandomCalls {
     /** By call: how often, then the least and the greatest of each argument in ordinary calls. */
     private static final String[] CALL_RANGES = {
         "place 6 0 9", "way 8 0 66", "person 6 0 99 0 6", "people 3 0 5 0 12 1 6", "mend 30 0 8 0 3 0 9",
-        "of 20 0 7 0 21", "feed 1 33 130", "law 1", "go 3 -9 999 1 2", "move 8 0 5 0 6", "lay 5 0 6", "commands 3",
+        "of 20 0 7 0 21", "feed 1 33 130", "law 1", "go 3 -9 999 1 3", "move 8 0 5 0 6", "lay 5 0 6", "commands 3",
         "led 5 0 5", "risk 6 0 5 0 623", "walk 6 0 5 0 623 0 23", "chance 2 0 5 0 2 0 1", "mean 2 0 5 0 2 0 1",
         "stand 1 0 5 0 2", "heavy 6 0 5 0 2312", "ahead 4 -9 999 1 24 -1 5 0 2", "storm 1 -9 999", "seeded 2 0 5 0 6",
         "image 2", "back 4", "undo 6", "redo 4", "body 8 0 7", "act 14 0 12 0 3 -99 99", "trace 8 0 10", "keep 5 0 5 -1 9",
@@ -41,7 +41,7 @@ final class RandomCalls {
         return ((Number) methods.get((String) call[0]).invoke(x, given)).longValue();
     }
 
-    /** Some runs begin with a town, some have many arguments that are far off. */
+    /** Some runs begin with a town, some have many arguments that are far off, some go on into the night. */
     static List<Object[]> run(int number, int length) {
         Random random = new Random(number);
         List<String[]> ranges = ranges();
@@ -52,9 +52,14 @@ final class RandomCalls {
         }
         while (calls.size() < length) {
             String[] words = ranges.get(random.nextInt(ranges.size()));
+            boolean late = number % 5 == 0;
             if (words[0].equals("law")) {
                 feedText(random, calls);
-            } else {
+            } else if (words[0].equals("seeded") && random.nextInt(3) > 0) {
+                tellHats(random, calls);
+            } else if (words[0].equals("people") && random.nextBoolean()) {
+                rowOfPeople(random, calls);
+            } else if (!late || !words[0].equals("back")) {
                 calls.add(arguments(random, words, wildness));
             }
         }
@@ -91,7 +96,34 @@ final class RandomCalls {
         if ((words[0].equals("risk") || words[0].equals("walk")) && random.nextInt(8) > 0) {
             call[2] = (Integer) call[2] / 100 * 100 + random.nextInt(24);
         }
+        if (words[0].equals("walk") && (Integer) call[2] >= 0 && random.nextInt(8) > 0) {
+            call[3] = random.nextInt((Integer) call[2] % 100 + 1);
+        }
+        if (words[0].equals("heavy") && random.nextInt(8) > 0) {
+            call[2] = (Integer) call[2] / 100 * 100 + random.nextInt(13);
+        }
         return call;
+    }
+
+    /** Few told hats, so that some seed of a hundred may lead to them. */
+    private static void tellHats(Random random, List<Object[]> calls) {
+        int shelf = random.nextInt(6);
+        int told = 1 + random.nextInt(3);
+        calls.add(new Object[] {"row", shelf, 0, told});
+        for (int p = 0; p < told; p++) {
+            calls.add(new Object[] {"put", shelf, p, (long) random.nextInt(7)});
+        }
+        calls.add(new Object[] {"seeded", shelf, random.nextInt(9)});
+    }
+
+    private static void rowOfPeople(Random random, List<Object[]> calls) {
+        int shelf = random.nextInt(6);
+        int length = random.nextInt(15);
+        calls.add(new Object[] {"row", shelf, 0, length});
+        for (int i = 0; i < length; i++) {
+            calls.add(new Object[] {"put", shelf, i, (long) random.nextInt(random.nextInt(9) == 0 ? 12 : 5)});
+        }
+        calls.add(new Object[] {"people", shelf, random.nextInt(4), 1 + random.nextInt(6)});
     }
 
     /** Enough places and people that the run is about something. */
@@ -104,7 +136,7 @@ final class RandomCalls {
         for (int w = random.nextInt(12); w > 0; w--) {
             calls.add(new Object[] {"way", random.nextInt(places) * 10 + random.nextInt(places)});
         }
-        for (int p = 1 + random.nextInt(6); p > 0; p--) {
+        for (int p = random.nextInt(3) == 0 ? 1 : 1 + random.nextInt(6); p > 0; p--) {
             calls.add(new Object[] {"person", random.nextInt(100), random.nextInt(Math.min(places, 3))});
         }
         if (random.nextBoolean()) {
